@@ -30,16 +30,16 @@ final class Boundaries {
         CutTrees x = new CutTrees();
         PlainCuts plain = new PlainCuts();
         for (String before : given.calls()) {
-            is(given, before, answer(x, before), answer(plain, before));
+            is(given, before, Calls.answer(x, before), Calls.answer(plain, before));
         }
-        is(given, call, answer(x, call), want);
-        is(given, "PlainCuts: " + call, answer(plain, call), want);
+        is(given, call, Calls.answer(x, call), want);
+        is(given, "PlainCuts: " + call, Calls.answer(plain, call), want);
         holdsCalls(given.calls().size() + 1);
     }
 
     /** The call answers so, once and once more, and nothing that can be seen has changed by it. */
     void refused(Given given, String call, int want) {
-        refusalsSeen.add(nameOf(call) + " " + want);
+        refusalsSeen.add(Calls.nameOf(call) + " " + want);
         answers(given, call, want);
         answers(given.then(call), call, want);
         same(given.then(call), given);
@@ -55,7 +55,7 @@ final class Boundaries {
         List<String> look = questions(other);
         look.addAll(changes());
         for (String call : look) {
-            is(one, call, answer(x, call), answer(y, call));
+            is(one, call, Calls.answer(x, call), Calls.answer(y, call));
         }
         holdsCalls(Math.max(one.calls().size(), other.calls().size()) + look.size());
     }
@@ -67,7 +67,7 @@ final class Boundaries {
     static CutTrees made(Given given) {
         CutTrees x = new CutTrees();
         for (String call : given.calls()) {
-            answer(x, call);
+            Calls.answer(x, call);
         }
         return x;
     }
@@ -83,7 +83,7 @@ final class Boundaries {
     /** The CUTS of one NODE and of two tell the weight between each two; the rest is built on it. */
     private static List<String> questions(Given given) {
         PlainCuts plain = new PlainCuts();
-        given.calls().stream().filter(call -> call.matches("(node|clear|arc|drop)\\(.*")).forEach(call -> answer(plain, call));
+        given.calls().stream().filter(call -> call.matches("(node|clear|arc|drop)\\(.*")).forEach(call -> Calls.answer(plain, call));
         int n = plain.nodes();
         List<String> calls = new ArrayList<>(List.of("least()", "counted()", "every(0)", "drawn(7)", "parts(1)",
             "parts(2)", "parts(3)", "parts(4)", "sparsest()", "share(0)", "share(1)", "without(0)"));
@@ -107,23 +107,6 @@ final class Boundaries {
         }
         calls.addAll(List.of("cut(1)", "clear()"));
         return calls;
-    }
-
-    private static String nameOf(String call) {
-        return call.substring(0, call.indexOf('('));
-    }
-
-    private static int answer(Object to, String call) {
-        String inside = call.substring(call.indexOf('(') + 1, call.length() - 1);
-        Object[] numbers = inside.isEmpty() ? new Object[0]
-            : Arrays.stream(inside.split(", ")).map(Integer::valueOf).toArray();
-        Class<?>[] types = new Class<?>[numbers.length];
-        Arrays.fill(types, int.class);
-        try {
-            return (int) to.getClass().getDeclaredMethod(nameOf(call), types).invoke(to, numbers);
-        } catch (NoSuchMethodException | IllegalAccessException | InvocationTargetException e) {
-            throw new IllegalStateException(call, e);
-        }
     }
 
     /** Runs the marked methods of a class in the order of their names, which does not matter. */

@@ -5,7 +5,9 @@ import java.lang.reflect.Method;
 import java.lang.reflect.Modifier;
 import java.nio.file.Files;
 import java.nio.file.Path;
+import java.util.ArrayList;
 import java.util.Arrays;
+import java.util.Collections;
 import java.util.List;
 import java.util.Set;
 import java.util.TreeSet;
@@ -15,17 +17,17 @@ import java.util.regex.Pattern;
 /** What of the document's face and of LANGUAGE.md can be seen from the class and its text. */
 public final class RulesTest {
     private static final Due due = new Due();
-    private static final Set<String> FACE = new TreeSet<>(List.of(
-        "node()", "arc(int,int,int)", "drop(int)", "clear()", "cut(int)", "pair(int,int)",
-        "side(int,int)", "parent(int)", "branch(int)", "way(int,int)", "least()", "counted()",
-        "every(int)", "drawn(int)", "parts(int)", "partOf(int,int)", "sparsest()", "share(int)",
-        "bars(int,int)", "barSet(int,int)", "without(int)"));
+    private static final int PROMISES = 22;
     private static final List<String> FORBIDDEN = List.of(
         "throw", "throws", "try", "catch", "finally", "synchronized", "assert", "import", "package",
         "volatile", "native", "Object", "Random", "Thread", "hashCode", "toString");
 
     public static void main(String[] args) throws IOException {
-        checkFace();
+        String document = Files.readString(Path.of("../shared/DOC.md"));
+        String text = Files.readString(Path.of("src/main/java/CutTrees.java"));
+        checkFace(faceIn(document));
+        due.holds("calls and headings stand as in the document: " + orderOf(text),
+            orderOf(text).equals(orderDueBy(document)));
         checkMembers(CutTrees.class);
         for (Class<?> inside : CutTrees.class.getDeclaredClasses()) {
             due.holds(inside + " is static", Modifier.isStatic(inside.getModifiers()));
@@ -33,11 +35,51 @@ public final class RulesTest {
             checkMembers(inside);
         }
         due.holds("at most twelve classes", CutTrees.class.getDeclaredClasses().length <= 12);
-        checkText(Files.readString(Path.of("src/main/java/CutTrees.java")));
+        checkText(text);
         due.finish("RulesTest");
     }
 
-    private static void checkFace() {
+    /** The face's lines, such as "public int cut(int set);", without the class's own. */
+    private static List<String> linesOfFace(String document) {
+        Matcher face = Pattern.compile("(?s)```java\\s*public final class CutTrees \\{(.*?)\\}\\s*```").matcher(document);
+        return face.find() ? face.group(1).strip().lines().map(String::strip).toList() : List.of();
+    }
+
+    /** Names with types alone, as in "cut(int)"; the constructor is looked at by itself. */
+    private static Set<String> faceIn(String document) {
+        Set<String> face = new TreeSet<>();
+        for (String line : linesOfFace(document)) {
+            if (line.startsWith("public int ")) {
+                face.add(line.replaceAll("public int |;", "").replaceAll("int \\w+", "int").replace(" ", ""));
+            }
+        }
+        due.is("calls in the document's face", face.size(), PROMISES - 1);
+        return face;
+    }
+
+    /** The public calls and what is said ahead of them, in the order in which the class has them. */
+    private static List<String> orderOf(String text) {
+        return Pattern.compile("(?m)^    (?:public (?:int )?(\\w+)\\(|// (---- .*)$)").matcher(text).results()
+            .map(found -> found.group(1) != null ? found.group(1) : found.group(2)).toList();
+    }
+
+    /** The same by the document; a heading's calls must follow it and come ahead of the next one. */
+    private static List<String> orderDueBy(String document) {
+        List<String> order = new ArrayList<>();
+        for (String line : linesOfFace(document)) {
+            order.add(line.replaceAll("public (int )?|\\(.*", ""));
+        }
+        Matcher ahead = Pattern.compile("Ahead of the calls (.*) the interface says: (---- .*)\\.").matcher(document);
+        while (ahead.find()) {
+            List<String> calls = List.of(ahead.group(1).replace("`", "").split(", "));
+            int first = order.indexOf(calls.get(0));
+            due.holds("these calls follow one another: " + calls, Collections.indexOfSubList(order, calls) == first);
+            order.add(Math.max(first, 0), ahead.group(2));
+        }
+        return order;
+    }
+
+    private static void checkFace(Set<String> face) {
         due.holds("public and final", CutTrees.class.getModifiers() == (Modifier.PUBLIC | Modifier.FINAL));
         Set<String> open = new TreeSet<>();
         Set<String> hidden = new TreeSet<>();
@@ -51,9 +93,9 @@ public final class RulesTest {
             String types = String.join(",", Arrays.stream(method.getParameterTypes()).map(Class::getName).toList());
             open.add(method.getName() + "(" + types + ")");
         }
-        due.holds("the face is the document's: " + open, open.equals(FACE));
+        due.holds("the face is the document's: " + open, open.equals(face));
         for (String name : hidden) {
-            due.holds(name + " is no public name", FACE.stream().noneMatch(face -> face.startsWith(name + "(")));
+            due.holds(name + " is no public name", face.stream().noneMatch(call -> call.startsWith(name + "(")));
         }
         for (Field field : CutTrees.class.getDeclaredFields()) {
             due.holds(field + " is private", Modifier.isPrivate(field.getModifiers()));
